@@ -567,7 +567,7 @@ public final class PromisesTest {
         ground(x, DOUBLED);
         x.element(1);
         fill(x, 0, 1, 1);
-        for (int wrong : new int[] {-1, Integer.MIN_VALUE, 2, 3, 62, 620, 10, 6, 7, 8, 9, 60, 70, 80, 6610, 100, Integer.MAX_VALUE}) {
+        for (int wrong : new int[] {-1, Integer.MIN_VALUE, 2, 3, 62, 620, 10, 6, 7, 8, 9, 60, 70, 80, 6610, 100, 16, 17, 18, 19, 106, 108, 1060, 1070, Integer.MAX_VALUE}) {
             IS.argument("run " + wrong, () -> x.run(1, wrong));
         }
         IS.argument("of another ALGEBRA than its own", () -> x.run(2, 0));
