@@ -5,6 +5,7 @@ import java.util.concurrent.Callable;
 final class Answers {
     private int wrong = 0;
     private int asked = 0;
+    private String sentence = "";
 
     /** What a call answers: its value, or the simple name of what it throws. */
     static Object of(Callable<?> call) {
@@ -13,6 +14,11 @@ final class Answers {
         } catch (Exception e) {
             return "throws." + e.getClass().getSimpleName();
         }
+    }
+
+    /** What follows tests this sentence of the document, until the next one is told. */
+    void sentence(String quoted) {
+        sentence = "\"" + quoted + "\": ";
     }
 
     void due(String call, Object want, Callable<?> made) {
@@ -36,7 +42,7 @@ final class Answers {
         if (!Objects.equals(got, want)) {
             wrong++;
             if (wrong <= 50) {
-                System.out.println(call + " answered " + got + ", due is " + want);
+                System.out.println(sentence + call + " answered " + got + ", due is " + want);
             }
         }
     }

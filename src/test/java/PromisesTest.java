@@ -1,7 +1,7 @@
 /** Promise by promise: ordinary inputs, the edges, the wrong inputs, and which exception goes first. */
 public final class PromisesTest {
-    private static final int DOUBLED = 0;
-    private static final int BLADES = 1;
+    private static final int DOUBLED = Houses.DOUBLED;
+    private static final int BLADES = Houses.BLADES;
     private static final Answers IS = new Answers();
 
     public static void main(String[] args) {
@@ -63,42 +63,8 @@ public final class PromisesTest {
         promise35();
     }
 
-    /** A house with that PRIME, one ALGEBRA with those DIALS, and some ELEMENTS of it. */
-    private static Versorhall house(int prime, int kind, int elements, int... dials) {
-        Versorhall x = new Versorhall();
-        x.prime(prime);
-        ground(x, kind, dials);
-        for (int made = 0; made < elements; made++) {
-            x.element(0);
-        }
-        return x;
-    }
-
-    private static int ground(Versorhall x, int kind, int... dials) {
-        int algebra = x.algebra(kind);
-        for (int dial : dials) {
-            x.dial(algebra, dial);
-        }
-        return algebra;
-    }
-
-    /** Sets the numbers of an ELEMENT, from UNIT 0 on. */
-    private static void fill(Versorhall x, int element, int... numbers) {
-        for (int unit = 0; unit < numbers.length; unit++) {
-            x.set(element, unit, numbers[unit]);
-        }
-    }
-
     private static void text(String told, Versorhall x, int element, String want) {
         IS.due(told, want, () -> x.text(element));
-    }
-
-    /** A house in which the ELEMENTS 0 and 1 are of the ALGEBRA 0, and 2 is of the ALGEBRA 1, both of BLADES. */
-    private static Versorhall twoGrounds() {
-        Versorhall x = house(7, BLADES, 2, 1, 2);
-        ground(x, BLADES, 1, 2);
-        x.element(1);
-        return x;
     }
 
     private static void promise1() {
@@ -197,8 +163,8 @@ public final class PromisesTest {
     }
 
     private static void promise6() {
-        Versorhall x = house(5, BLADES, 1, 1, 2, 3, 4);
-        ground(x, BLADES);
+        Versorhall x = Houses.house(5, BLADES, 1, 1, 2, 3, 4);
+        Houses.ground(x, BLADES);
         x.element(1);
         IS.due("set", 0, () -> x.set(0, 15, 4));
         IS.due("set again", 4, () -> x.set(0, 15, 1));
@@ -215,37 +181,37 @@ public final class PromisesTest {
     }
 
     private static void promise7() {
-        Versorhall x = house(7, DOUBLED, 3, 6, 6);
-        fill(x, 0, 1, 2, 3, 4);
-        fill(x, 1, 6, 6, 3, 0);
+        Versorhall x = Houses.house(7, DOUBLED, 3, 6, 6);
+        Houses.fill(x, 0, 1, 2, 3, 4);
+        Houses.fill(x, 1, 6, 6, 3, 0);
         IS.due("sum", 3, () -> x.sum(2, 0, 1));
         text("sum", x, 2, "1e1+6e2+4e3");
         IS.due("sum into one of them", 4, () -> x.sum(0, 0, 0));
         text("twice", x, 0, "2e0+4e1+6e2+1e3");
-        outside3("sum", (into, one, other) -> twoGrounds().sum(into, one, other));
+        outside3("sum", (into, one, other) -> Houses.twoGrounds().sum(into, one, other));
     }
 
     private static void promise8() {
-        Versorhall x = house(7, DOUBLED, 3, 6, 6);
-        fill(x, 0, 0, 1);
-        fill(x, 1, 0, 0, 1);
+        Versorhall x = Houses.house(7, DOUBLED, 3, 6, 6);
+        Houses.fill(x, 0, 0, 1);
+        Houses.fill(x, 1, 0, 0, 1);
         IS.due("i j", 1, () -> x.product(2, 0, 1));
         text("i j", x, 2, "1e3");
         x.product(2, 1, 0);
         text("j i", x, 2, "6e3");
-        fill(x, 0, 1, 1, 0, 0);
-        fill(x, 1, 1, 6, 0, 0);
+        Houses.fill(x, 0, 1, 1, 0, 0);
+        Houses.fill(x, 1, 1, 6, 0, 0);
         IS.due("(1 + i) (1 - i)", 1, () -> x.product(1, 0, 1));
         text("(1 + i) (1 - i)", x, 1, "2e0");
         x.product(0, 0, 0);
         text("(1 + i) (1 + i)", x, 0, "2e1");
-        Versorhall y = house(5, BLADES, 3, 2, 3);
-        fill(y, 0, 0, 1, 1, 0);
-        fill(y, 1, 0, 1, 0, 1);
+        Versorhall y = Houses.house(5, BLADES, 3, 2, 3);
+        Houses.fill(y, 0, 0, 1, 1, 0);
+        Houses.fill(y, 1, 0, 1, 0, 1);
         IS.due("BLADES", 4, () -> y.product(2, 0, 1));
         // (e1 + e2)(e1 + e3) = 2 + e1 e1 e2 + e2 e1 + e2 e1 e2 = 2 + 2 e2 - e3 - 3 e1
         text("BLADES", y, 2, "2e0+2e1+2e2+4e3");
-        outside3("product", (into, one, other) -> twoGrounds().product(into, one, other));
+        outside3("product", (into, one, other) -> Houses.twoGrounds().product(into, one, other));
     }
 
     private interface Call3 {
@@ -276,8 +242,8 @@ public final class PromisesTest {
     }
 
     private static void promise9() {
-        Versorhall x = house(7, DOUBLED, 2, 6, 6);
-        fill(x, 0, 1, 2, 0, 4);
+        Versorhall x = Houses.house(7, DOUBLED, 2, 6, 6);
+        Houses.fill(x, 0, 1, 2, 0, 4);
         IS.due("scale", 3, () -> x.scale(1, 0, 3));
         text("scale", x, 1, "3e0+6e1+5e3");
         IS.due("scale by 6", 3, () -> x.scale(0, 0, 6));
@@ -288,28 +254,28 @@ public final class PromisesTest {
         text("what stands", x, 0, "6e0+5e1+3e3");
         IS.due("scale by 0", 0, () -> x.scale(0, 0, 0));
         text("scale by 0", x, 0, "0");
-        outside2("scale", (into, one) -> twoGrounds().scale(into, one, 1));
-        outside2("scale by a wrong number", (into, one) -> twoGrounds().scale(into, into == one ? 1 : one, into == 3 ? 7 : 1));
+        outside2("scale", (into, one) -> Houses.twoGrounds().scale(into, one, 1));
+        outside2("scale by a wrong number", (into, one) -> Houses.twoGrounds().scale(into, into == one ? 1 : one, into == 3 ? 7 : 1));
     }
 
     private static void promise10() {
-        Versorhall x = house(7, DOUBLED, 2, 6, 6);
-        fill(x, 0, 1, 2, 0, 4);
+        Versorhall x = Houses.house(7, DOUBLED, 2, 6, 6);
+        Houses.fill(x, 0, 1, 2, 0, 4);
         IS.due("conjugate", 3, () -> x.conjugate(1, 0));
         text("conjugate", x, 1, "1e0+5e1+3e3");
         x.conjugate(1, 1);
         text("conjugate twice", x, 1, "1e0+2e1+4e3");
-        Versorhall y = house(5, BLADES, 1, 1, 1, 1, 1);
-        fill(y, 0, 1, 1, 1, 1, 1, 1, 1, 1, 1, 1, 1, 1, 1, 1, 1, 1);
+        Versorhall y = Houses.house(5, BLADES, 1, 1, 1, 1, 1);
+        Houses.fill(y, 0, 1, 1, 1, 1, 1, 1, 1, 1, 1, 1, 1, 1, 1, 1, 1, 1);
         IS.due("conjugate of BLADES", 16, () -> y.conjugate(0, 0));
         text("conjugate of BLADES", y, 0,
             "1e0+4e1+4e2+4e3+4e4+4e5+4e6+1e7+4e8+4e9+4e10+1e11+4e12+1e13+1e14+1e15");
-        outside2("conjugate", (into, one) -> twoGrounds().conjugate(into, one));
+        outside2("conjugate", (into, one) -> Houses.twoGrounds().conjugate(into, one));
     }
 
     private static void promise11() {
-        Versorhall x = house(7, DOUBLED, 2, 6, 6);
-        fill(x, 0, 2, 1);
+        Versorhall x = Houses.house(7, DOUBLED, 2, 6, 6);
+        Houses.fill(x, 0, 2, 1);
         IS.due("power 3", 2, () -> x.power(1, 0, 3));
         text("power 3", x, 1, "2e0+4e1");
         IS.due("power 0", 1, () -> x.power(1, 0, 0));
@@ -325,53 +291,53 @@ public final class PromisesTest {
         IS.argument("power 61", () -> x.power(0, 0, 61));
         IS.argument("power -1", () -> x.power(0, 0, -1));
         IS.index("the ELEMENT goes first", () -> x.power(2, 0, 61));
-        fill(x, 0, 0, 0);
+        Houses.fill(x, 0, 0, 0);
         IS.due("0^0", 1, () -> x.power(1, 0, 0));
-        outside2("power", (into, one) -> twoGrounds().power(into, one, 2));
-        outside2("power 0", (into, one) -> twoGrounds().power(into, one, 0));
+        outside2("power", (into, one) -> Houses.twoGrounds().power(into, one, 2));
+        outside2("power 0", (into, one) -> Houses.twoGrounds().power(into, one, 0));
     }
 
     private static void promise12() {
-        Versorhall x = house(7, DOUBLED, 3, 6, 6);
-        fill(x, 0, 2, 1);
+        Versorhall x = Houses.house(7, DOUBLED, 3, 6, 6);
+        Houses.fill(x, 0, 2, 1);
         IS.due("invert", 2, () -> x.invert(2, 0));
         text("invert", x, 2, "6e0+4e1");
         x.product(2, 2, 0);
         text("INVERSE times it", x, 2, "1e0");
         IS.state("0 has none", () -> x.invert(2, 1));
         text("what stands", x, 2, "1e0");
-        Versorhall y = house(5, DOUBLED, 2, 1);
-        fill(y, 0, 1, 1);
+        Versorhall y = Houses.house(5, DOUBLED, 2, 1);
+        Houses.fill(y, 0, 1, 1);
         IS.state("NORM 0", () -> y.invert(1, 0));
-        Versorhall z = house(7, BLADES, 2, 1, 1, 1);
+        Versorhall z = Houses.house(7, BLADES, 2, 1, 1, 1);
         // 1 + e1 e2 e3 times its CONJUGATE, itself, is 1 - 1 + 2 e1 e2 e3: not PLAIN; NORM 0.
-        fill(z, 0, 1, 0, 0, 0, 0, 0, 0, 1);
+        Houses.fill(z, 0, 1, 0, 0, 0, 0, 0, 0, 1);
         IS.state("NORM 0, not PLAIN", () -> z.invert(1, 0));
         // 2 + e1 e2 e3: 4 - 1 + 4 e1 e2 e3: NORM 3, but not PLAIN.
         z.set(0, 0, 2);
         IS.due("NORM", 3, () -> z.ofElement(0, 2));
         IS.state("not PLAIN", () -> z.invert(1, 0));
-        fill(z, 0, 0, 3, 0, 0, 0, 0, 0, 0);
+        Houses.fill(z, 0, 0, 3, 0, 0, 0, 0, 0, 0);
         IS.due("invert a VECTOR", 1, () -> z.invert(0, 0));
         text("1 / 3 e1", z, 0, "5e1");
-        outside2("invert", (into, one) -> twoGrounds().invert(into, one));
+        outside2("invert", (into, one) -> Houses.twoGrounds().invert(into, one));
     }
 
     private static void promise13() {
-        Versorhall x = house(5, BLADES, 2, 1, 4, 1, 4);
+        Versorhall x = Houses.house(5, BLADES, 2, 1, 4, 1, 4);
         IS.due("series of 0", 1, () -> x.series(1, 0));
         text("series of 0", x, 1, "1e0");
-        fill(x, 0, 0, 1, 1);
+        Houses.fill(x, 0, 0, 1, 1);
         IS.due("series of v, v v = 0", 3, () -> x.series(1, 0));
         text("series of v", x, 1, "1e0+1e1+1e2");
         IS.state("series of 1", () -> x.series(0, 1));
         text("what stands", x, 0, "1e1+1e2");
-        fill(x, 0, 0, 2, 2);
+        Houses.fill(x, 0, 0, 2, 2);
         x.series(0, 0);
         text("series into itself", x, 0, "1e0+2e1+2e2");
-        Versorhall y = house(3, BLADES, 2, 1, 2, 1, 2);
+        Versorhall y = Houses.house(3, BLADES, 2, 1, 2, 1, 2);
         cubeIsNothing(y);
-        outside2("series", (into, one) -> twoGrounds().series(into, one));
+        outside2("series", (into, one) -> Houses.twoGrounds().series(into, one));
     }
 
     /** For some ELEMENTS x with x x x = 0 (P = 3, so that is as far as a SERIES goes): 1 + x + x x / 2. */
@@ -399,61 +365,61 @@ public final class PromisesTest {
     }
 
     private static void promise14() {
-        Versorhall x = house(5, DOUBLED, 2, 1);
+        Versorhall x = Houses.house(5, DOUBLED, 2, 1);
         IS.due("KILLER of 0", 0, () -> x.killer(1, 0));
         text("KILLER of 0", x, 1, "1e0");
         IS.state("1 has none", () -> x.killer(0, 1));
         text("what stands", x, 0, "0");
-        fill(x, 0, 1, 1);
+        Houses.fill(x, 0, 1, 1);
         IS.due("KILLER of 1 + i", 1, () -> x.killer(1, 0));
         text("KILLER of 1 + i", x, 1, "4e0+1e1");
-        fill(x, 0, 1, 4);
+        Houses.fill(x, 0, 1, 4);
         x.killer(0, 0);
         text("KILLER into itself", x, 0, "1e0+1e1");
-        Versorhall y = house(7, BLADES, 3, 1, 1, 6);
+        Versorhall y = Houses.house(7, BLADES, 3, 1, 1, 6);
         // e1 + e3 is null and kills itself first at UNIT 4: (e1 + e3)(e1 + e3) = 0.
-        fill(y, 0, 0, 1, 0, 0, 1);
+        Houses.fill(y, 0, 0, 1, 0, 0, 1);
         IS.due("KILLER of a null VECTOR", 4, () -> y.killer(1, 0));
         text("KILLER of a null VECTOR", y, 1, "1e1+1e4");
         y.product(2, 0, 1);
         text("it kills", y, 2, "0");
-        outside2("killer", (into, one) -> twoGrounds().killer(into, one));
+        outside2("killer", (into, one) -> Houses.twoGrounds().killer(into, one));
     }
 
     private static void promise15() {
-        Versorhall x = house(7, BLADES, 3, 1, 1, 6);
+        Versorhall x = Houses.house(7, BLADES, 3, 1, 1, 6);
         IS.index("hang without ELEMENT", () -> x.hang(3));
         IS.index("hang -1", () -> x.hang(-1));
         IS.state("0 is no VECTOR", () -> x.hang(0));
-        fill(x, 0, 1, 1);
+        Houses.fill(x, 0, 1, 1);
         IS.state("with UNIT 0", () -> x.hang(0));
-        fill(x, 0, 0, 1, 0, 1);
+        Houses.fill(x, 0, 0, 1, 0, 1);
         IS.state("with two GENERATORS", () -> x.hang(0));
-        fill(x, 0, 0, 1, 0, 0, 1);
+        Houses.fill(x, 0, 0, 1, 0, 0, 1);
         IS.state("SQUARE 0", () -> x.hang(0));
         IS.due("MIRRORS", 0, () -> x.ofAlgebra(0, 5));
-        fill(x, 0, 0, 1, 0, 0, 0);
+        Houses.fill(x, 0, 0, 1, 0, 0, 0);
         for (int count = 1; count <= 6; count++) {
             int want = count;
             IS.due("hang", want, () -> x.hang(0));
         }
         IS.state("a seventh", () -> x.hang(0));
         IS.due("MIRRORS", 6, () -> x.ofAlgebra(0, 5));
-        Versorhall y = house(7, DOUBLED, 1, 1);
-        fill(y, 0, 0, 1);
+        Versorhall y = Houses.house(7, DOUBLED, 1, 1);
+        Houses.fill(y, 0, 0, 1);
         IS.state("no BLADES", () -> y.hang(0));
-        Versorhall z = house(7, BLADES, 2, 1, 1);
-        fill(z, 0, 0, 1);
+        Versorhall z = Houses.house(7, BLADES, 2, 1, 1);
+        Houses.fill(z, 0, 0, 1);
         z.hang(0);
-        fill(z, 0, 0, 0, 1);
+        Houses.fill(z, 0, 0, 0, 1);
         z.versor(1);
         text("as it was when it was HUNG", z, 1, "1e1");
     }
 
     private static void promise16() {
-        Versorhall x = house(7, BLADES, 1, 1, 1);
-        ground(x, DOUBLED);
-        fill(x, 0, 0, 1);
+        Versorhall x = Houses.house(7, BLADES, 1, 1, 1);
+        Houses.ground(x, DOUBLED);
+        Houses.fill(x, 0, 0, 1);
         x.hang(0);
         x.hang(0);
         IS.due("clear", 2, () -> x.clear(0));
@@ -470,37 +436,37 @@ public final class PromisesTest {
     }
 
     private static void promise17() {
-        Versorhall x = house(7, BLADES, 4, 1, 1, 6);
-        fill(x, 0, 0, 1);
-        fill(x, 1, 3, 1, 2, 0, 5);
+        Versorhall x = Houses.house(7, BLADES, 4, 1, 1, 6);
+        Houses.fill(x, 0, 0, 1);
+        Houses.fill(x, 1, 3, 1, 2, 0, 5);
         IS.due("mirror", 4, () -> x.mirror(2, 0, 1));
         // -v x v / 1 by e1: 1 to -1, e1 to -e1, e2 to e2, e4 to e4.
         text("mirror by e1", x, 2, "4e0+6e1+2e2+5e4");
-        fill(x, 0, 0, 1, 1);
-        fill(x, 3, 0, 1);
+        Houses.fill(x, 0, 0, 1, 1);
+        Houses.fill(x, 3, 0, 1);
         x.mirror(3, 0, 3);
         text("mirror by e1 + e2, SQUARE 2", x, 3, "6e2");
         x.mirror(0, 0, 0);
         text("a VECTOR by itself", x, 0, "6e1+6e2");
         IS.state("no VECTOR", () -> x.mirror(3, 1, 0));
-        fill(x, 1, 0, 1, 0, 0, 1);
+        Houses.fill(x, 1, 0, 1, 0, 0, 1);
         IS.state("SQUARE 0", () -> x.mirror(3, 1, 0));
-        fill(x, 1, 0, 0, 0, 0, 0);
+        Houses.fill(x, 1, 0, 0, 0, 0, 0);
         IS.state("0", () -> x.mirror(3, 1, 0));
         IS.due("no MIRRORS hung", 0, () -> x.ofAlgebra(0, 5));
-        Versorhall y = house(7, DOUBLED, 2, 1);
-        fill(y, 0, 0, 1);
+        Versorhall y = Houses.house(7, DOUBLED, 2, 1);
+        Houses.fill(y, 0, 0, 1);
         IS.state("no BLADES", () -> y.mirror(1, 0, 1));
-        outside3("mirror", (into, one, other) -> twoGrounds().mirror(into, one, other));
+        outside3("mirror", (into, one, other) -> Houses.twoGrounds().mirror(into, one, other));
     }
 
     private static void promise18() {
-        Versorhall x = house(7, BLADES, 4, 1, 1, 6);
-        fill(x, 2, 0, 1, 0, 0, 1);
+        Versorhall x = Houses.house(7, BLADES, 4, 1, 1, 6);
+        Houses.fill(x, 2, 0, 1, 0, 0, 1);
         IS.due("turn without MIRRORS", 2, () -> x.turn(3, 2));
         text("turn without MIRRORS", x, 3, "1e1+1e4");
-        fill(x, 0, 0, 1);
-        fill(x, 1, 0, 1, 1);
+        Houses.fill(x, 0, 0, 1);
+        Houses.fill(x, 1, 0, 1, 1);
         x.hang(0);
         x.hang(1);
         IS.due("turn", 2, () -> x.turn(3, 2));
@@ -508,21 +474,21 @@ public final class PromisesTest {
         text("turn", x, 3, "1e2+1e4");
         x.turn(2, 2);
         text("turn into itself", x, 2, "1e2+1e4");
-        Versorhall y = house(7, DOUBLED, 2, 1);
-        ground(y, BLADES);
+        Versorhall y = Houses.house(7, DOUBLED, 2, 1);
+        Houses.ground(y, BLADES);
         y.element(1);
         IS.state("no BLADES", () -> y.turn(0, 1));
         IS.argument("two ALGEBRAS go first", () -> y.turn(0, 2));
         IS.index("the ELEMENT goes first", () -> y.turn(0, 3));
-        outside2("turn", (into, one) -> twoGrounds().turn(into, one));
+        outside2("turn", (into, one) -> Houses.twoGrounds().turn(into, one));
     }
 
     private static void promise19() {
-        Versorhall x = house(7, BLADES, 3, 1, 1, 6);
+        Versorhall x = Houses.house(7, BLADES, 3, 1, 1, 6);
         IS.due("versor without MIRRORS", 1, () -> x.versor(2));
         text("versor without MIRRORS", x, 2, "1e0");
-        fill(x, 0, 0, 1);
-        fill(x, 1, 0, 1, 1);
+        Houses.fill(x, 0, 0, 1);
+        Houses.fill(x, 1, 0, 1, 1);
         x.hang(0);
         x.hang(1);
         IS.due("versor", 2, () -> x.versor(2));
@@ -530,16 +496,16 @@ public final class PromisesTest {
         text("versor", x, 2, "1e0+6e3");
         IS.index("versor 3", () -> x.versor(3));
         IS.index("versor -1", () -> x.versor(-1));
-        Versorhall y = house(7, DOUBLED, 1);
+        Versorhall y = Houses.house(7, DOUBLED, 1);
         IS.state("no BLADES", () -> y.versor(0));
         text("what stands", y, 0, "0");
     }
 
     private static void promise20() {
-        Versorhall x = house(7, DOUBLED, 7, 6, 6);
-        fill(x, 0, 1, 1);
-        fill(x, 1, 0, 0, 3);
-        fill(x, 5, 0, 0, 0, 2);
+        Versorhall x = Houses.house(7, DOUBLED, 7, 6, 6);
+        Houses.fill(x, 0, 1, 1);
+        Houses.fill(x, 1, 0, 0, 3);
+        Houses.fill(x, 5, 0, 0, 0, 2);
         IS.due("run 0", 2, () -> x.run(6, 0));
         text("run 0", x, 6, "1e0+1e1");
         x.run(6, 601);
@@ -563,10 +529,10 @@ public final class PromisesTest {
     }
 
     private static void wrongWords() {
-        Versorhall x = house(7, DOUBLED, 2, 6, 6);
-        ground(x, DOUBLED);
+        Versorhall x = Houses.house(7, DOUBLED, 2, 6, 6);
+        Houses.ground(x, DOUBLED);
         x.element(1);
-        fill(x, 0, 1, 1);
+        Houses.fill(x, 0, 1, 1);
         for (int wrong : new int[] {-1, Integer.MIN_VALUE, 2, 3, 62, 620, 10, 6, 7, 8, 9, 60, 70, 80, 6610, 100, 16, 17, 18, 19, 106, 108, 1060, 1070, Integer.MAX_VALUE}) {
             IS.argument("run " + wrong, () -> x.run(1, wrong));
         }
@@ -584,8 +550,8 @@ public final class PromisesTest {
     }
 
     private static void promise21() {
-        Versorhall x = house(7, BLADES, 1, 1, 1);
-        fill(x, 0, 1, 2, 3, 4);
+        Versorhall x = Houses.house(7, BLADES, 1, 1, 1);
+        Houses.fill(x, 0, 1, 2, 3, 4);
         for (int unit = 0; unit < 4; unit++) {
             int asked = unit;
             IS.due("at " + unit, asked + 1, () -> x.at(0, asked));
@@ -604,26 +570,26 @@ public final class PromisesTest {
     }
 
     private static void promise22() {
-        Versorhall x = house(7, DOUBLED, 2, 6, 6);
+        Versorhall x = Houses.house(7, DOUBLED, 2, 6, 6);
         ofElement("0", x, 0, 0, 0, 0, 1, -1, 1, 1, -1, 0, 0);
-        fill(x, 0, 1);
+        Houses.fill(x, 0, 1);
         ofElement("1", x, 0, 0, 1, 1, 1, 1, -1, 1, -1, 4, 4);
-        fill(x, 0, 6);
+        Houses.fill(x, 0, 6);
         ofElement("-1", x, 0, 0, 1, 1, 1, 2, -1, 0, -1, 4, 4);
-        fill(x, 0, 2, 1);
+        Houses.fill(x, 0, 2, 1);
         ofElement("2 + i", x, 0, 0, 2, 5, 0, 48, -1, 0, -1, 4, 4);
-        Versorhall y = house(5, BLADES, 2, 1, 4);
-        ground(y, BLADES, 2);
+        Versorhall y = Houses.house(5, BLADES, 2, 1, 4);
+        Houses.ground(y, BLADES, 2);
         y.element(1);
-        fill(y, 0, 0, 1, 1);
+        Houses.fill(y, 0, 0, 1, 1);
         ofElement("e1 + e2", y, 0, 0, 2, 0, 0, -1, 2, 0, 0, 2, 2);
-        fill(y, 1, 0, 0, 3);
+        Houses.fill(y, 1, 0, 0, 3);
         // 3 e2: SQUARE 9 * 4 = 1
         ofElement("3 e2", y, 1, 0, 1, 4, 0, 2, -1, 0, 1, 4, 4);
-        fill(y, 1, 3, 3, 0);
+        Houses.fill(y, 1, 3, 3, 0);
         // (3 + 3 e1)^2 = 9 + 9 + 18 e1 = 3 + 3 e1; NORM 9 - 9
         ofElement("3 + 3 e1", y, 1, 0, 2, 0, 0, -1, -1, 1, -1, 2, 2);
-        fill(y, 2, 0, 1);
+        Houses.fill(y, 2, 0, 1);
         ofElement("of the ALGEBRA 1", y, 2, 1, 1, 3, 0, 8, -1, 0, 2, 2, 2);
         longPowers();
         zeroDivisor();
@@ -635,10 +601,10 @@ public final class PromisesTest {
 
     /** Units of the two by two matrices over 7 numbers have orders up to 48; so no search ends too soon. */
     private static void longPowers() {
-        Versorhall x = house(7, BLADES, 1, 1, 1);
+        Versorhall x = Houses.house(7, BLADES, 1, 1, 1);
         int found = 0;
         for (int code = 0; code < 2401; code++) {
-            fill(x, 0, code % 7, code / 7 % 7, code / 49 % 7, code / 343);
+            Houses.fill(x, 0, code % 7, code / 7 % 7, code / 49 % 7, code / 343);
             found = Math.max(found, x.ofElement(0, 4));
         }
         int greatest = found;
@@ -647,7 +613,7 @@ public final class PromisesTest {
 
     /** A zero divisor of 16 UNITS. */
     private static void zeroDivisor() {
-        Versorhall x = house(7, DOUBLED, 1, 6, 6, 6, 6);
+        Versorhall x = Houses.house(7, DOUBLED, 1, 6, 6, 6, 6);
         x.set(0, 1, 1);
         x.set(0, 10, 1);
         // x x = -2, which is 5, of the order 6
@@ -655,7 +621,7 @@ public final class PromisesTest {
     }
 
     private static void promise23() {
-        Versorhall x = house(7, BLADES, 1, 1, 1, 1, 1);
+        Versorhall x = Houses.house(7, BLADES, 1, 1, 1, 1, 1);
         text("0", x, 0, "0");
         x.set(0, 15, 6);
         text("one", x, 0, "6e15");
@@ -668,12 +634,12 @@ public final class PromisesTest {
     }
 
     private static void promise24() {
-        Versorhall x = house(7, BLADES, 3, 1, 1, 6);
-        ground(x, DOUBLED, 6, 6);
-        ground(x, DOUBLED, 6);
-        ground(x, BLADES);
+        Versorhall x = Houses.house(7, BLADES, 3, 1, 1, 6);
+        Houses.ground(x, DOUBLED, 6, 6);
+        Houses.ground(x, DOUBLED, 6);
+        Houses.ground(x, BLADES);
         x.element(2);
-        fill(x, 0, 0, 1);
+        Houses.fill(x, 0, 0, 1);
         x.hang(0);
         int[][] wants = {{1, 3, 8, 3, 129, 1}, {0, 2, 4, 0, 1, 0}, {0, 1, 2, 1, 3, 0}, {1, 0, 1, 0, 1, 0}};
         for (int algebra = 0; algebra < 4; algebra++) {
@@ -690,13 +656,13 @@ public final class PromisesTest {
     }
 
     private static void promise25() {
-        Versorhall x = house(7, DOUBLED, 0, 6, 6, 6);
+        Versorhall x = Houses.house(7, DOUBLED, 0, 6, 6, 6);
         // UNITS of the octonions: e1 e4 = e5, e4 e1 = -e5, e2 e5 = e2 (e1 e4): of halves, d a = e1 e2 = e3 in the second.
         int[][] wants = {{0, 0, 1}, {1, 1, 6}, {7, 7, 6}, {1, 2, 1}, {2, 1, 6}, {1, 4, 1}, {4, 1, 6}, {2, 5, 1}, {5, 2, 6}, {5, 6, 6}, {6, 5, 1}};
         for (int[] want : wants) {
             IS.due("sign " + want[0] + " " + want[1], want[2], () -> x.sign(0, want[0], want[1]));
         }
-        ground(x, BLADES, 2, 3, 5);
+        Houses.ground(x, BLADES, 2, 3, 5);
         int[][] blades = {{0, 7, 1}, {1, 1, 2}, {2, 2, 3}, {4, 4, 5}, {1, 2, 1}, {2, 1, 6}, {3, 3, 1}, {5, 1, 5}, {7, 7, 5}, {4, 3, 1}};
         // 3 3: -(2 * 3) = 1; 5 1: -2; 7 7: -30 = 5; 4 3: two swaps.
         for (int[] want : blades) {
@@ -719,7 +685,7 @@ public final class PromisesTest {
 
     private static void promise26() {
         Versorhall x = new Versorhall();
-        ground(x, DOUBLED);
+        Houses.ground(x, DOUBLED);
         breaks(x, 0, -1, -1, -1, -1);
         x.dial(0, 6);
         breaks(x, 0, -1, -1, -1, -1);
@@ -729,7 +695,7 @@ public final class PromisesTest {
         breaks(x, 0, 288, 292, -1, -1);
         x.dial(0, 6);
         breaks(x, 0, 288, 292, 300, -1);
-        ground(x, BLADES, 1, 1, 1, 1);
+        Houses.ground(x, BLADES, 1, 1, 1, 1);
         breaks(x, 1, 288, -1, -1, -1);
         IS.index("LAW 4", () -> x.breaks(0, 4));
         IS.index("LAW -1", () -> x.breaks(0, -1));
@@ -740,29 +706,29 @@ public final class PromisesTest {
     private static void promise27() {
         Versorhall x = new Versorhall();
         IS.due("meanSize without ELEMENTS", 0.0, () -> x.meanSize());
-        ground(x, BLADES, 1, 1);
+        Houses.ground(x, BLADES, 1, 1);
         x.element(0);
         IS.due("meanSize of 0", 0.0, () -> x.meanSize());
         x.element(0);
         x.element(0);
-        fill(x, 1, 1, 2, 3, 4);
+        Houses.fill(x, 1, 1, 2, 3, 4);
         IS.due("meanSize", 4.0 / 3.0, () -> x.meanSize());
     }
 
     private static void promise28() {
-        Versorhall x = house(7, BLADES, 1, 1, 1, 1, 1);
+        Versorhall x = Houses.house(7, BLADES, 1, 1, 1, 1, 1);
         IS.due("lean of 0", 0.0, () -> x.lean(0));
-        fill(x, 0, 3);
+        Houses.fill(x, 0, 3);
         IS.due("lean of 3, PLAIN", -0.75, () -> x.lean(0));
-        fill(x, 0, 4);
+        Houses.fill(x, 0, 4);
         IS.due("lean of -3, PLAIN", 0.75, () -> x.lean(0));
-        fill(x, 0, 0, 3);
+        Houses.fill(x, 0, 0, 3);
         IS.due("lean of 3 e1", 1.5, () -> x.lean(0));
-        fill(x, 0, 0, 4);
+        Houses.fill(x, 0, 0, 4);
         IS.due("lean of -3 e1", -1.5, () -> x.lean(0));
-        fill(x, 0, 1, 0, 2);
+        Houses.fill(x, 0, 1, 0, 2);
         IS.due("lean of 1 + 2 e2", 1.75, () -> x.lean(0));
-        fill(x, 0, 0, 0, 0, 0, 0, 0, 0, 0, 0, 0, 0, 0, 0, 0, 0, 2);
+        Houses.fill(x, 0, 0, 0, 0, 0, 0, 0, 0, 0, 0, 0, 0, 0, 0, 0, 0, 2);
         IS.due("8 leaves 0", 0.0, () -> x.lean(0));
         x.set(0, 14, 1);
         IS.due("11.75 leaves 3.75", 3.75, () -> x.lean(0));
@@ -777,22 +743,22 @@ public final class PromisesTest {
     }
 
     private static void signedByPrime() {
-        Versorhall three = house(3, BLADES, 1, 1);
-        fill(three, 0, 0, 1);
+        Versorhall three = Houses.house(3, BLADES, 1, 1);
+        Houses.fill(three, 0, 0, 1);
         IS.due("1 of 3", 0.5, () -> three.lean(0));
-        fill(three, 0, 0, 2);
+        Houses.fill(three, 0, 0, 2);
         IS.due("2 of 3", -0.5, () -> three.lean(0));
-        Versorhall five = house(5, BLADES, 1, 1);
-        fill(five, 0, 0, 2);
+        Versorhall five = Houses.house(5, BLADES, 1, 1);
+        Houses.fill(five, 0, 0, 2);
         IS.due("2 of 5", 1.0, () -> five.lean(0));
-        fill(five, 0, 0, 3);
+        Houses.fill(five, 0, 0, 3);
         IS.due("3 of 5", -1.0, () -> five.lean(0));
     }
 
     private static void promise29() {
         Versorhall x = new Versorhall();
         IS.due("poise without ELEMENTS", 0.0, () -> x.poise());
-        ground(x, BLADES, 1);
+        Houses.ground(x, BLADES, 1);
         x.element(0);
         IS.due("poise of 0", 0.0, () -> x.poise());
         poise(x, 0.0, 0, 1);
@@ -805,32 +771,32 @@ public final class PromisesTest {
         poise(x, 2.0, 3, 3);
         poise(x, -2.0, 4, 4);
         x.element(0);
-        fill(x, 0, 0, 3);
-        fill(x, 1, 0, 3);
+        Houses.fill(x, 0, 0, 3);
+        Houses.fill(x, 1, 0, 3);
         IS.due("mean 1.5", 2.0, () -> x.poise());
-        fill(x, 1, 0, 1);
+        Houses.fill(x, 1, 0, 1);
         IS.due("mean 1", 1.0, () -> x.poise());
-        fill(x, 1, 0, 6);
+        Houses.fill(x, 1, 0, 6);
         IS.due("mean 0.5", 0.0, () -> x.poise());
-        fill(x, 0, 0, 4);
-        fill(x, 1, 0, 1);
+        Houses.fill(x, 0, 0, 4);
+        Houses.fill(x, 1, 0, 1);
         IS.due("mean -0.5", 0.0, () -> x.poise());
         x.element(0);
-        fill(x, 1, 0, 4);
+        Houses.fill(x, 1, 0, 4);
         IS.due("mean -1 of three", -1.0, () -> x.poise());
     }
 
     private static void poise(Versorhall x, double want, int... numbers) {
-        fill(x, 0, numbers);
+        Houses.fill(x, 0, numbers);
         IS.due("poise of lean " + x.lean(0), want, () -> x.poise());
     }
 
     private static void promise30() {
-        Versorhall x = house(5, BLADES, 3, 1, 4);
-        ground(x, DOUBLED);
-        ground(x, DOUBLED, 1);
-        fill(x, 0, 0, 1, 1);
-        fill(x, 1, 2);
+        Versorhall x = Houses.house(5, BLADES, 3, 1, 4);
+        Houses.ground(x, DOUBLED);
+        Houses.ground(x, DOUBLED, 1);
+        Houses.fill(x, 0, 0, 1, 1);
+        Houses.fill(x, 1, 2);
         x.clear(0);
         int[] wants = {5, 3, 3, 7, 2, 2, 1, 0};
         // LEANS: (2 + 3) / 4 = 1.25, -0.5 and 0: 0.75 without what is behind its point.
@@ -838,10 +804,10 @@ public final class PromisesTest {
             int asked = what;
             IS.due("many " + what, wants[asked], () -> x.many(asked));
         }
-        fill(x, 2, 0, 0, 1);
+        Houses.fill(x, 2, 0, 0, 1);
         IS.due("many 7 of 1.5", 1, () -> x.many(7));
-        fill(x, 0, 0, 4, 4);
-        fill(x, 2, 0, 0, 4);
+        Houses.fill(x, 0, 0, 4, 4);
+        Houses.fill(x, 2, 0, 0, 4);
         IS.due("many 7 of -2.5", -2, () -> x.many(7));
         IS.due("many 4", 1, () -> x.many(4));
         IS.due("many 5", 1, () -> x.many(5));
@@ -850,25 +816,25 @@ public final class PromisesTest {
     }
 
     private static void promise31() {
-        Versorhall x = house(7, DOUBLED, 2, 6, 6);
-        fill(x, 0, 2, 1);
-        fill(x, 1, 0, 0, 1);
+        Versorhall x = Houses.house(7, DOUBLED, 2, 6, 6);
+        Houses.fill(x, 0, 2, 1);
+        Houses.fill(x, 1, 0, 0, 1);
         IS.due("apart", 1, () -> x.apart(0, 1));
         IS.due("apart, the other way round", 1, () -> x.apart(1, 0));
         IS.due("apart of itself", 0, () -> x.apart(0, 0));
-        fill(x, 1, 1, 2, 3, 4);
+        Houses.fill(x, 1, 1, 2, 3, 4);
         IS.due("apart of more", 2, () -> x.apart(0, 1));
         text("nothing is changed", x, 0, "2e0+1e1");
         text("nothing is changed", x, 1, "1e0+2e1+3e2+4e3");
-        outside2("apart", (one, other) -> twoGrounds().apart(one, other));
-        int small = ground(x, DOUBLED);
+        outside2("apart", (one, other) -> Houses.twoGrounds().apart(one, other));
+        int small = Houses.ground(x, DOUBLED);
         int element = x.element(small);
         x.apart(0, 1);
         IS.due("apart in a smaller ALGEBRA, after a greater one", 0, () -> x.apart(element, element));
     }
 
     private static void promise32() {
-        Versorhall x = house(7, BLADES, 0, 1, 1, 6);
+        Versorhall x = Houses.house(7, BLADES, 0, 1, 1, 6);
         IS.due("row 0", 8, () -> x.row(0, 0));
         // 6 * 2 * 2 = 24 = 3
         IS.due("row 3", 2, () -> x.row(0, 3));
@@ -878,25 +844,25 @@ public final class PromisesTest {
         IS.argument("row -1", () -> x.row(0, -1));
         IS.index("ALGEBRA 1", () -> x.row(1, 0));
         IS.index("the ALGEBRA goes first", () -> x.row(-1, 7));
-        ground(x, DOUBLED, 6, 6);
+        Houses.ground(x, DOUBLED, 6, 6);
         // x x + y y = 0 only for 0 0, as -1 is no square by 7.
         IS.due("row 0 of -1 -1", -1, () -> x.row(1, 0));
         // x x + y y = 6 first for 4 + 2, that is x = 2, y = 3.
         IS.due("row 1 of -1 -1", 2 * 7 + 3, () -> x.row(1, 1));
-        ground(x, BLADES);
+        Houses.ground(x, BLADES);
         IS.due("row without DIALS", -1, () -> x.row(2, 0));
         IS.due("row 1 without DIALS", -1, () -> x.row(2, 1));
-        ground(x, BLADES, 1);
+        Houses.ground(x, BLADES, 1);
         IS.due("row 2 of 1", 3, () -> x.row(3, 2));
         IS.due("row 3 of 1", -1, () -> x.row(3, 3));
     }
 
     private static void promise33() {
         Versorhall x = new Versorhall();
-        ground(x, BLADES, 1, 3, 2, 6);
-        ground(x, BLADES, 5, 4, 6, 1);
-        ground(x, BLADES, 1, 1, 1, 3);
-        ground(x, DOUBLED, 1, 3, 2, 6);
+        Houses.ground(x, BLADES, 1, 3, 2, 6);
+        Houses.ground(x, BLADES, 5, 4, 6, 1);
+        Houses.ground(x, BLADES, 1, 1, 1, 3);
+        Houses.ground(x, DOUBLED, 1, 3, 2, 6);
         // Squares by 7 are 1, 2, 4: the classes are (s, n, s, n) and (n, s, n, s).
         IS.due("match 0 1", 1032, () -> x.match(0, 1));
         IS.due("match 1 0", 1032, () -> x.match(1, 0));
@@ -910,9 +876,9 @@ public final class PromisesTest {
         IS.index("match -1", () -> x.match(-1, 0));
         IS.index("match, other -1", () -> x.match(0, -1));
         Versorhall y = new Versorhall();
-        ground(y, BLADES);
-        ground(y, BLADES);
-        ground(y, BLADES, 1);
+        Houses.ground(y, BLADES);
+        Houses.ground(y, BLADES);
+        Houses.ground(y, BLADES, 1);
         IS.due("without DIALS", 0, () -> y.match(0, 1));
         IS.due("without as many DIALS", -1, () -> y.match(0, 2));
         IS.due("one GENERATOR", 0, () -> y.match(2, 2));
@@ -920,10 +886,10 @@ public final class PromisesTest {
 
     private static void promise34() {
         Versorhall x = new Versorhall();
-        ground(x, BLADES, 1, 3);
-        ground(x, BLADES, 5, 2);
-        ground(x, DOUBLED, 5, 2);
-        ground(x, BLADES, 1, 1);
+        Houses.ground(x, BLADES, 1, 3);
+        Houses.ground(x, BLADES, 5, 2);
+        Houses.ground(x, DOUBLED, 5, 2);
+        Houses.ground(x, BLADES, 1, 1);
         // 1 = 2 * 2 * 2 and 3 = 5 * 3 * 3 (modulo 7)
         IS.due("scaleOf 0", 2, () -> x.scaleOf(0, 1, 0));
         IS.due("scaleOf 1", 3, () -> x.scaleOf(0, 1, 1));
