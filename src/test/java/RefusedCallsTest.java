@@ -65,6 +65,8 @@ public final class RefusedCallsTest {
         askedOfAlgebras();
         many();
         wouldBe();
+        namedFirst();
+        changesNothing();
         IS.end();
     }
 
@@ -425,7 +427,7 @@ public final class RefusedCallsTest {
         IS.sentence("20: Throws `IllegalArgumentException` if word is below 0");
         each(new int[] {-1, -10, LEAST}, ARGUMENT, (x, word) -> x.run(0, word));
         taken("0", 8, x -> x.run(3, 0));
-        IS.sentence("20: Throws `IllegalArgumentException` if word puts an ELEMENT that there is not, or that is of another ALGEBRA");
+        IS.sentence("20: puts an ELEMENT that there is not, or that is of another ALGEBRA");
         for (int count = 1; count <= 6; count++) {
             int elements = count;
             taken("the last one", 0, house(7, DOUBLED, elements), x -> x.run(0, elements - 1));
@@ -436,10 +438,10 @@ public final class RefusedCallsTest {
         each(new int[] {0, 3, 640, 604}, ARGUMENT, (x, word) -> x.run(7, word));
         each(new int[] {0, 4, 5}, ARGUMENT, (x, word) -> x.run(9, word));
         taken("5, of its own", 1, x -> x.run(7, 5));
-        IS.sentence("20: Throws `IllegalArgumentException` if word finds not enough");
+        IS.sentence("20: or finds not enough");
         each(new int[] {6, 7, 8, 9, 60, 70, 80, 6610, 7710, 8810, 9, 19, 97}, ARGUMENT, (x, word) -> x.run(3, word));
         each(new int[] {666666666, 999999999, MOST}, ARGUMENT, (x, word) -> x.run(3, word));
-        IS.sentence("20: Throws `IllegalArgumentException` if word leaves more than one");
+        IS.sentence("20: or leaves more than one");
         each(new int[] {10, 33, 210, 9010, 6210, 1000000000, 1666600000, 2000000000}, ARGUMENT, (x, word) -> x.run(3, word));
         taken("just one", 8, x -> x.run(3, 66210));
     }
@@ -563,5 +565,63 @@ public final class RefusedCallsTest {
         refused("without any", INDEX, EMPTY, x -> call.of(x, 0, 0));
         refused("the second of one", INDEX, house(7, BLADES, 0), x -> call.of(x, 0, 1));
         refused("the second of one", INDEX, house(7, BLADES, 0), x -> call.of(x, 1, 0));
+    }
+
+    // ---- what binds every method
+
+    /** One call for each two exceptions of one method: both apply, and the one that is named first is thrown. */
+    private static void namedFirst() {
+        IS.sentence("If several exceptions apply, the one that is named first is thrown");
+        Supplier<Versorhall> four = house(7, BLADES, 0, 1, 2, 3, 4);
+        refused("prime: argument, then state", ARGUMENT, x -> x.prime(4));
+        refused("algebra: argument, then state", ARGUMENT, x -> x.algebra(2));
+        refused("dial: index, then argument", INDEX, x -> x.dial(4, 0));
+        refused("dial: argument, then state by ELEMENTS", ARGUMENT, x -> x.dial(0, 0));
+        refused("dial: argument, then state by 4 DIALS", ARGUMENT, four, x -> x.dial(0, 7));
+        refused("element: index, then state", INDEX, x -> x.element(4));
+        refused("set: index of the ELEMENT, then argument", INDEX, x -> x.set(10, 0, 7));
+        refused("set: index of the UNIT, then argument", INDEX, x -> x.set(0, 8, 7));
+        refused("sum: index, then argument", INDEX, x -> x.sum(0, 4, 10));
+        refused("product: index, then argument", INDEX, x -> x.product(0, 4, 10));
+        refused("scale: index, then argument by ALGEBRAS", INDEX, x -> x.scale(10, 4, 1));
+        refused("scale: index, then argument by the number", INDEX, x -> x.scale(0, 10, 7));
+        refused("power: index, then argument", INDEX, x -> x.power(0, 10, 61));
+        refused("invert: index, then state", INDEX, x -> x.invert(10, 3));
+        refused("invert: argument, then state", ARGUMENT, x -> x.invert(4, 3));
+        refused("series: index, then state", INDEX, x -> x.series(10, 2));
+        refused("series: argument, then state", ARGUMENT, x -> x.series(4, 2));
+        refused("killer: index, then state", INDEX, x -> x.killer(10, 2));
+        refused("killer: argument, then state", ARGUMENT, x -> x.killer(4, 2));
+        refused("mirror: index, then argument", INDEX, x -> x.mirror(0, 4, 10));
+        refused("mirror: index, then state", INDEX, x -> x.mirror(10, 7, 7));
+        refused("mirror: argument, then state", ARGUMENT, x -> x.mirror(4, 0, 4));
+        refused("turn: index, then state", INDEX, x -> x.turn(0, 10));
+        refused("turn: argument, then state", ARGUMENT, x -> x.turn(0, 4));
+        refused("run: index, then argument", INDEX, x -> x.run(10, -1));
+        refused("ofElement: index, then argument", INDEX, x -> x.ofElement(10, 10));
+        refused("ofAlgebra: index, then argument", INDEX, x -> x.ofAlgebra(4, 6));
+        refused("apart: index, then argument", INDEX, x -> x.apart(10, 0));
+        refused("row: index, then argument", INDEX, x -> x.row(4, 7));
+    }
+
+    /** All on one object, so that what a refused call left behind would be seen in the next ones. */
+    private static void changesNothing() {
+        IS.sentence("A method that throws an exception changes nothing");
+        Versorhall x = Houses.full();
+        Call[] calls = {
+            y -> y.prime(3), y -> y.algebra(2), y -> y.algebra(0), y -> y.dial(3, 0), y -> y.dial(0, 1), y -> y.element(0),
+            y -> y.set(0, 0, 7), y -> y.set(9, 2, 1), y -> y.sum(0, 0, 4), y -> y.product(0, 0, 4), y -> y.scale(0, 1, 7),
+            y -> y.conjugate(0, 4), y -> y.power(0, 1, 61), y -> y.invert(0, 3), y -> y.invert(4, 7), y -> y.series(0, 1),
+            y -> y.killer(0, 2), y -> y.hang(6), y -> y.hang(7), y -> y.hang(8), y -> y.clear(4), y -> y.mirror(5, 6, 4),
+            y -> y.mirror(0, 1, 2), y -> y.turn(0, 1), y -> y.versor(0), y -> y.run(0, 10), y -> y.run(0, 6610),
+            y -> y.run(0, 467210), y -> y.ofElement(0, 10), y -> y.ofAlgebra(0, 6), y -> y.breaks(0, 4), y -> y.many(8),
+            y -> y.apart(0, 4), y -> y.row(0, 7)};
+        for (int round = 0; round < 5; round++) {
+            for (int place = 0; place < calls.length; place++) {
+                Call call = calls[place];
+                IS.due("call " + place + " is refused", true, () -> Answers.of(() -> call.of(x)).toString().startsWith("throws."));
+            }
+        }
+        IS.due("all is as before", Houses.all(Houses.full()), () -> Houses.all(x));
     }
 }

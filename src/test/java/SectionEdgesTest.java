@@ -457,6 +457,16 @@ public final class SectionEdgesTest {
         fill(y, 0, 2, 5);
         IS.due("the greatest UNIT of all", 1, () -> y.killer(1, 0));
         text("2 - 2 e1", y, 1, "1e0+1e1");
+        IS.sentence("of the y with x y = 0, that are not 0");
+        fill(x, 0, 0, 0, 1, 1);
+        // e2 e1 + e3 e1 is -e3 - e2, but e1 e2 + e1 e3 is e3 + e2: here y x is not 0.
+        x.killer(1, 0);
+        text("x y is 0, not y x", x, 1, "1e0+1e1");
+        fill(x, 0, 1, 2, 3, 4);
+        x.power(1, 0, 1);
+        fill(x, 0, 0, 0, 0, 0);
+        x.killer(1, 0);
+        text("nothing stays of a result that had more", x, 1, "1e0");
         Versorhall none = Houses.house(7, BLADES, 2);
         IS.due("0 of UNIT 0 alone", 0, () -> none.killer(1, 0));
         fill(none, 0, 6);
