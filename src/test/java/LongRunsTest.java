@@ -1,13 +1,15 @@
 /** Long runs of calls on Versorhall and on ReferenceHouse: each answer has to be the same. */
 public final class LongRunsTest {
-    private static final int RUNS = 150;
-    private static final int CALLS = 440;
+    private static final int RUNS = 200;
+    /** What calls above 512 answer is free; a step makes some 20 at most. */
+    private static final int CALLS = 480;
 
     private final Answers answers = new Answers();
     private long seed;
     private Versorhall x;
     private ReferenceHouse y;
     private int p;
+    private int calls;
 
     public static void main(String[] args) {
         LongRunsTest test = new LongRunsTest();
@@ -39,15 +41,21 @@ public final class LongRunsTest {
             int prime = p;
             answers.same("prime", x.prime(prime), y.prime(prime));
         }
+        calls = 1;
         begin(run);
-        for (int call = 0; call < CALLS && answers.allAsDue(); call++) {
-            String told = "run " + run + ", call " + call + ": ";
+        for (int step = 0; calls < CALLS && answers.allAsDue(); step++) {
+            String told = "run " + run + ", step " + step + ": ";
             step(told);
-            if (call % 9 == 0 && (call < 60 || call % 27 == 0)) {
-                answers.same(told + "digest()", x.digest(), y.digest());
+            if (step % 9 == 0 && (step < 60 || step % 27 == 0)) {
+                digests(told);
             }
         }
-        answers.same("run " + run + ": last digest()", x.digest(), y.digest());
+        digests("run " + run + ", last: ");
+    }
+
+    private void digests(String told) {
+        calls++;
+        answers.same(told + "digest()", x.digest(), y.digest());
     }
 
     /** Most runs begin with ALGEBRAS of some size, as otherwise ELEMENTS soon bar their DIALS. */
@@ -55,21 +63,24 @@ public final class LongRunsTest {
         int algebras = run % 5;
         for (int a = 0; a < algebras; a++) {
             int kind = upTo(5) < 2 ? 0 : 1;
+            calls++;
             answers.same("algebra", x.algebra(kind), y.algebra(kind));
             int dials = upTo(5);
             for (int d = 0; d < dials; d++) {
                 int algebra = a;
                 int dial = 1 + upTo(p - 1);
+                calls++;
                 answers.same("dial", x.dial(algebra, dial), y.dial(algebra, dial));
             }
         }
     }
 
     private void both(String told, java.util.concurrent.Callable<?> one, java.util.concurrent.Callable<?> other) {
+        calls++;
         Object want = Answers.of(other);
         answers.same(told, Answers.of(one), want);
         if (want instanceof String && ((String) want).startsWith("throws.") && upTo(8) == 0) {
-            answers.same(told + ", then digest()", x.digest(), y.digest());
+            digests(told + ", then ");
         }
     }
 

@@ -335,15 +335,15 @@ public final class PromisesTest {
         Houses.fill(x, 0, 0, 2, 2);
         x.series(0, 0);
         text("series into itself", x, 0, "1e0+2e1+2e2");
-        Versorhall y = Houses.house(3, BLADES, 2, 1, 2, 1, 2);
-        cubeIsNothing(y);
+        cubeIsNothing();
         outside2("series", (into, one) -> Houses.twoGrounds().series(into, one));
     }
 
     /** For some ELEMENTS x with x x x = 0 (P = 3, so that is as far as a SERIES goes): 1 + x + x x / 2. */
-    private static void cubeIsNothing(Versorhall y) {
+    private static void cubeIsNothing() {
         int found = 0;
         for (int code = 1; code < 6561 && found < 5; code++) {
+            Versorhall y = Houses.house(3, BLADES, 2, 1, 2, 1, 2);
             int rest = code;
             for (int unit = 3; unit <= 10; unit++) {
                 y.set(0, unit, rest % 3);
@@ -601,9 +601,9 @@ public final class PromisesTest {
 
     /** Units of the two by two matrices over 7 numbers have orders up to 48; so no search ends too soon. */
     private static void longPowers() {
-        Versorhall x = Houses.house(7, BLADES, 1, 1, 1);
         int found = 0;
         for (int code = 0; code < 2401; code++) {
+            Versorhall x = Houses.house(7, BLADES, 1, 1, 1);
             Houses.fill(x, 0, code % 7, code / 7 % 7, code / 49 % 7, code / 343);
             found = Math.max(found, x.ofElement(0, 4));
         }

@@ -2,6 +2,7 @@ import java.math.BigInteger;
 import java.util.ArrayList;
 import java.util.Arrays;
 import java.util.List;
+import java.util.function.Supplier;
 
 /**
  * Each "Returns" of the document that has a boundary case (none, the least, the most, a tie, a wrap-around), quoted,
@@ -717,12 +718,15 @@ public final class ReturnEdgesTest {
     }
 
     /** The checksum from its definition: what the calls answer, and no int or long that could cut it elsewhere. */
-    private static long digestOf(Versorhall x) {
+    private static long digestOf(Supplier<Versorhall> house) {
         List<Integer> numbers = new ArrayList<>();
+        Versorhall x = house.get();
+        int algebras = x.many(1);
+        int elements = x.many(2);
         for (int what = 0; what <= 7; what++) {
             numbers.add(x.many(what));
         }
-        for (int algebra = 0; algebra < x.many(1); algebra++) {
+        for (int algebra = 0; algebra < algebras; algebra++) {
             for (int what = 0; what <= 5; what++) {
                 numbers.add(x.ofAlgebra(algebra, what));
             }
@@ -731,18 +735,13 @@ public final class ReturnEdgesTest {
             }
             numbers.add(x.row(algebra, 0));
             numbers.add(x.row(algebra, 1));
-            for (int other = 0; other < x.many(1); other++) {
+            for (int other = 0; other < algebras; other++) {
                 numbers.add(x.match(algebra, other));
             }
         }
-        for (int element = 0; element < x.many(2); element++) {
-            for (int unit = 0; unit < x.ofAlgebra(x.ofElement(element, 0), 2); unit++) {
-                numbers.add(x.at(element, unit));
-            }
-            for (int what = 0; what <= 9; what++) {
-                numbers.add(x.ofElement(element, what));
-            }
-            numbers.add(x.text(element).length());
+        for (int element = 0; element < elements; element++) {
+            // One object for all would be asked more than 512 calls.
+            numbersOf(house.get(), element, numbers);
         }
         BigInteger d = BigInteger.valueOf(58236);
         for (int number : numbers) {
@@ -753,8 +752,20 @@ public final class ReturnEdgesTest {
         return (rest.testBit(63) ? rest.subtract(turns) : rest).longValueExact();
     }
 
-    private static void digest(String told, Versorhall x, Versorhall same) {
-        long want = digestOf(same);
+    private static void numbersOf(Versorhall x, int element, List<Integer> numbers) {
+        int units = x.ofAlgebra(x.ofElement(element, 0), 2);
+        for (int unit = 0; unit < units; unit++) {
+            numbers.add(x.at(element, unit));
+        }
+        for (int what = 0; what <= 9; what++) {
+            numbers.add(x.ofElement(element, what));
+        }
+        numbers.add(x.text(element).length());
+    }
+
+    private static void digest(String told, Supplier<Versorhall> house) {
+        long want = digestOf(house);
+        Versorhall x = house.get();
         IS.due(told, want, () -> x.digest());
         IS.due(told + ", again", want, () -> x.digest());
     }
@@ -765,13 +776,13 @@ public final class ReturnEdgesTest {
         long small = 58236L * 852891037441L + 7 * 27512614111L;
         IS.due("a new house", small, () -> new Versorhall().digest());
         IS.sentence("35: d becomes d * 31 + v, which wraps around as a 64-bit integer");
-        digest("an ALGEBRA without DIALS", house(3, BLADES, 0), house(3, BLADES, 0));
-        digest("an ELEMENT of 1 UNIT", house(7, DOUBLED, 1), house(7, DOUBLED, 1));
-        digest("an ELEMENT of 16 UNITS", ones16(), ones16());
+        digest("an ALGEBRA without DIALS", () -> house(3, BLADES, 0));
+        digest("an ELEMENT of 1 UNIT", () -> house(7, DOUBLED, 1));
+        digest("an ELEMENT of 16 UNITS", ReturnEdgesTest::ones16);
         IS.sentence("35: match() of it with each ALGEBRA (all that ahead of the next one)");
-        digest("four ALGEBRAS", fourGrounds(), fourGrounds());
+        digest("four ALGEBRAS", ReturnEdgesTest::fourGrounds);
         IS.sentence("35: ELEMENT by ELEMENT UNIT by UNIT at(), then ofElement() of 0 to 9, and how many letters text() has");
-        digest("a full house", Houses.full(), Houses.full());
+        digest("a full house", Houses::full);
     }
 
     private static Versorhall ones16() {

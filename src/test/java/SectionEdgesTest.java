@@ -47,15 +47,14 @@ public final class SectionEdgesTest {
     private static void use() {
         IS.sentence("An object is used for at most 512 calls after it has been made");
         Versorhall x = Houses.house(7, BLADES, 2, 1, 1);
-        fill(x, 0, 0, 1, 0, 0);
+        x.set(0, 1, 1);
         x.set(1, 0, 1);
-        int made = 3 + 1 + 2 + 4;
-        // (1 + e1)-fold turns: times e1 again and again, so the number goes between UNIT 0 and UNIT 1.
-        for (int call = made + 1; call < 512; call++) {
+        // The house took 6 calls and these are 2. Times e1 again and again: the 1 goes between UNIT 0 and UNIT 1.
+        for (int call = 9; call < 512; call++) {
             int step = call;
             IS.due("call " + step, 1, () -> x.product(1, 1, 0));
         }
-        text("call 512", x, 1, (511 - made) % 2 == 0 ? "1e0" : "1e1");
+        text("call 512, after 503 products", x, 1, "1e1");
         Versorhall y = new Versorhall();
         y.algebra(BLADES);
         for (int call = 2; call < 512; call++) {
