@@ -19,6 +19,7 @@ public final class SectionEdgesTest {
         inverse();
         series();
         killer();
+        allKillers();
         words();
         vectors();
         mirrors();
@@ -470,6 +471,39 @@ public final class SectionEdgesTest {
         IS.due("0 of UNIT 0 alone", 0, () -> none.killer(1, 0));
         fill(none, 0, 6);
         IS.state("6 of UNIT 0 alone", () -> none.killer(1, 0));
+    }
+
+    /** All x of four UNITS by 3: the KILLER is the first y with x y = 0, of those that have a 1 and then 0, in order. */
+    private static void allKillers() {
+        IS.sentence("the one whose greatest UNIT with a number that is not 0 is smallest, and has the number 1 there");
+        for (int code = 0; code < 2 * 81; code++) {
+            Versorhall x = Houses.house(3, code % 2, 3, 1, 2);
+            int x0 = code / 2;
+            fill(x, 0, x0 % 3, x0 / 3 % 3, x0 / 9 % 3, x0 / 27);
+            String told = "KILLER of " + x.text(0) + " of KIND " + code % 2;
+            int greatest = firstKilled(x);
+            if (greatest == NONE) {
+                IS.state(told, () -> x.killer(2, 0));
+            } else {
+                IS.due(told, greatest, () -> x.killer(2, 0));
+                text(told, x, 2, x.text(1));
+            }
+        }
+    }
+
+    /** Makes the ELEMENT 1 the KILLER of 0 by trying them all; tells its greatest UNIT. */
+    private static int firstKilled(Versorhall x) {
+        int from = 1;
+        for (int greatest = 0; greatest < 4; greatest++) {
+            for (int code = from; code < 2 * from; code++) {
+                fill(x, 1, code % 3, code / 3 % 3, code / 9 % 3, code / 27);
+                if (x.product(2, 0, 1) == 0) {
+                    return greatest;
+                }
+            }
+            from *= 3;
+        }
+        return NONE;
     }
 
     private static void words() {
