@@ -5,6 +5,7 @@ import java.lang.reflect.Method;
 import java.lang.reflect.Modifier;
 import java.nio.file.Files;
 import java.nio.file.Path;
+import java.util.ArrayList;
 import java.util.Arrays;
 import java.util.List;
 import java.util.Set;
@@ -14,15 +15,42 @@ import java.util.stream.Collectors;
 
 /** The class has the document's face and nothing besides, and none of what LANGUAGE.md plainly forbids. */
 public final class FaceTest {
+    /** Each method with what it declares to throw, in the document's order. */
     private static final String[] FACE = {
-        "int prime(int)", "int algebra(int)", "int dial(int, int)", "int element(int)", "int set(int, int, int)",
-        "int sum(int, int, int)", "int product(int, int, int)", "int scale(int, int, int)", "int conjugate(int, int)",
-        "int power(int, int, int)", "int invert(int, int)", "int series(int, int)", "int killer(int, int)",
-        "int hang(int)", "int clear(int)", "int mirror(int, int, int)", "int turn(int, int)", "int versor(int)",
-        "int run(int, int)", "int at(int, int)", "int ofElement(int, int)", "String text(int)",
-        "int ofAlgebra(int, int)", "int sign(int, int, int)", "int breaks(int, int)", "double meanSize()",
-        "double lean(int)", "double poise()", "int many(int)", "int apart(int, int)", "int row(int, int)",
-        "int match(int, int)", "int scaleOf(int, int, int)", "long digest()"};
+        "int prime(int): IllegalArgument IllegalState",
+        "int algebra(int): IllegalArgument IllegalState",
+        "int dial(int, int): IndexOutOfBounds IllegalArgument IllegalState",
+        "int element(int): IndexOutOfBounds IllegalState",
+        "int set(int, int, int): IndexOutOfBounds IllegalArgument",
+        "int sum(int, int, int): IndexOutOfBounds IllegalArgument",
+        "int product(int, int, int): IndexOutOfBounds IllegalArgument",
+        "int scale(int, int, int): IndexOutOfBounds IllegalArgument",
+        "int conjugate(int, int): IndexOutOfBounds IllegalArgument",
+        "int power(int, int, int): IndexOutOfBounds IllegalArgument",
+        "int invert(int, int): IndexOutOfBounds IllegalArgument IllegalState",
+        "int series(int, int): IndexOutOfBounds IllegalArgument IllegalState",
+        "int killer(int, int): IndexOutOfBounds IllegalArgument IllegalState",
+        "int hang(int): IndexOutOfBounds IllegalState",
+        "int clear(int): IndexOutOfBounds",
+        "int mirror(int, int, int): IndexOutOfBounds IllegalArgument IllegalState",
+        "int turn(int, int): IndexOutOfBounds IllegalArgument IllegalState",
+        "int versor(int): IndexOutOfBounds IllegalState",
+        "int run(int, int): IndexOutOfBounds IllegalArgument",
+        "int at(int, int): IndexOutOfBounds",
+        "int ofElement(int, int): IndexOutOfBounds IllegalArgument",
+        "String text(int): IndexOutOfBounds",
+        "int ofAlgebra(int, int): IndexOutOfBounds IllegalArgument",
+        "int sign(int, int, int): IndexOutOfBounds",
+        "int breaks(int, int): IndexOutOfBounds",
+        "double meanSize():",
+        "double lean(int): IndexOutOfBounds",
+        "double poise():",
+        "int many(int): IllegalArgument",
+        "int apart(int, int): IndexOutOfBounds IllegalArgument",
+        "int row(int, int): IndexOutOfBounds IllegalArgument",
+        "int match(int, int): IndexOutOfBounds",
+        "int scaleOf(int, int, int): IndexOutOfBounds",
+        "long digest():"};
 
     private static final String[] FORBIDDEN = {
         "->", "::", "\\bimport\\b", "\\bpackage\\b", "\\btry\\b", "\\bcatch\\b", "\\bfinally\\b", "\\bsynchronized\\b",
@@ -39,7 +67,11 @@ public final class FaceTest {
 
     private static String told(Method method) {
         String types = Arrays.stream(method.getParameterTypes()).map(Class::getSimpleName).collect(Collectors.joining(", "));
-        return method.getReturnType().getSimpleName() + " " + method.getName() + "(" + types + ")";
+        StringBuilder told = new StringBuilder(method.getReturnType().getSimpleName() + " " + method.getName() + "(" + types + "):");
+        for (Class<?> thrown : method.getExceptionTypes()) {
+            told.append(' ').append(thrown.getSimpleName().replace("Exception", ""));
+        }
+        return told.toString();
     }
 
     private static void face(Answers is) {
@@ -53,10 +85,7 @@ public final class FaceTest {
             }
         }
         is.same("the face", open, new TreeSet<>(Arrays.asList(FACE)));
-        for (Method method : Versorhall.class.getDeclaredMethods()) {
-            boolean hidden = Modifier.isPrivate(method.getModifiers()) && !method.isSynthetic();
-            is.same(method + " bears a public name", hidden && names.contains(method.getName()), false);
-        }
+        publicNames(is, names);
         for (Field field : Versorhall.class.getDeclaredFields()) {
             is.same(field + " is private", Modifier.isPrivate(field.getModifiers()), true);
         }
@@ -67,9 +96,24 @@ public final class FaceTest {
         staticState(is);
     }
 
-    private static void staticState(Answers is) {
-        List<Class<?>> all = new java.util.ArrayList<>(Arrays.asList(Versorhall.class.getDeclaredClasses()));
+    private static List<Class<?>> allClasses() {
+        List<Class<?>> all = new ArrayList<>(Arrays.asList(Versorhall.class.getDeclaredClasses()));
         all.add(Versorhall.class);
+        return all;
+    }
+
+    private static void publicNames(Answers is, Set<String> names) {
+        for (Class<?> one : allClasses()) {
+            for (Method method : one.getDeclaredMethods()) {
+                boolean hidden = one != Versorhall.class || Modifier.isPrivate(method.getModifiers());
+                boolean borrowed = hidden && !method.isSynthetic() && names.contains(method.getName());
+                is.same(method + " bears a public name", borrowed, false);
+            }
+        }
+    }
+
+    private static void staticState(Answers is) {
+        List<Class<?>> all = allClasses();
         is.same("at most twelve classes", all.size() <= 12, true);
         for (Class<?> one : all) {
             int kept = 0;
